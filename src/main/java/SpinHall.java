@@ -179,9 +179,7 @@ public final class SpinHall {
         if (topCount < 0 || topCount >= tops.length) {
             throw new IllegalStateException("no room for a top");
         }
-        Top added = new Top(spin, loss, c, a, weight);
-        added.settle();
-        tops[topCount] = added;
+        tops[topCount] = new Top(spin, loss, c, a, weight);
         topCount++;
         return topCount - 1;
     }
@@ -847,7 +845,7 @@ public final class SpinHall {
             // 4 times the square of a number is the square of its double
             this.nodFrom = leastSpin(2 * c, need);
             this.spin = spin;
-            this.state = 's';
+            settle();
         }
 
         private static int leastSpin(int factor, long need) {

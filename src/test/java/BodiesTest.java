@@ -138,6 +138,8 @@ final class BodiesTest {
     private static void kinds() {
         Check.due("a point", withMasses(5, 3, 3, 3).kindOf(0), 'r');
         Check.due("a rod along y", withMasses(1, 0, 4, 0, 2, 0, -1, 0).kindOf(0), 'r');
+        Check.due("a rod along x", withMasses(1, 4, 1, 1, 2, 3, 1, 1).kindOf(0), 'r');
+        Check.due("a rod along z", withMasses(1, 2, 0, 4, 2, 2, 0, -1).kindOf(0), 'r');
         Check.due("alike", withMasses(1, 1, 0, 0, 1, -1, 0, 0, 1, 0, 1, 0, 1, 0, -1, 0, 1, 0, 0, 1, 1, 0, 0, -1)
             .kindOf(0), 's');
         Check.due("long along x", cross(3, 1, 1).kindOf(0), 'p');

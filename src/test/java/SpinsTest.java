@@ -35,6 +35,15 @@ final class SpinsTest {
         return hall;
     }
 
+    private static SpinHall skewAndUnlike() {
+        SpinHall hall = new SpinHall();
+        hall.addBody();
+        hall.addMass(0, 1, 1, 2, 0);
+        hall.addMass(0, 1, 0, 0, 3);
+        hall.setSpin(0, 1, 2, 3);
+        return hall;
+    }
+
     /** Moments 156, 120 and 60. */
     private static SpinHall unlike() {
         return cross(1, 2, 3);
@@ -55,6 +64,8 @@ final class SpinsTest {
         Check.due("momentumOf", hall.momentumOf(0), 156L * 156 + 4 * 120 * 120 + 9 * 60 * 60);
         hall.addMass(0, 1, 0, 0, 0);
         Check.due("energyOf with a mass more", hall.energyOf(0), 7 * (156L + 4 * 120 + 9 * 60) / 6);
+        Check.due("setSpin(0, -20, -20, -20)", hall.setSpin(0, -20, -20, -20), 400 * 7 * (156L + 120 + 60) / 6);
+        Check.due("setSpin(0, 20, 20, 20)", hall.setSpin(0, 20, 20, 20), 400 * 7 * (156L + 120 + 60) / 6);
         Check.due("setSpin(0, 0, 0, 0)", hall.setSpin(0, 0, 0, 0), 0L);
 
         SpinHall greatest = empty();
@@ -85,6 +96,11 @@ final class SpinsTest {
         Check.refused(SpinsTest::spinning, "r -21", WRONG, h -> h.setSpin(0, 0, 0, -21));
     }
 
+    private static void dueFirmness(String what, SpinHall hall, String want) {
+        String got = "" + hall.firmness(0, 'x') + hall.firmness(0, 'y') + hall.firmness(0, 'z');
+        Check.due("firmness of one that is " + what, got, want);
+    }
+
     private static void firmness() {
         Check.due("the greatest moment", unlike().firmness(0, 'x'), 'f');
         Check.due("the middle moment", unlike().firmness(0, 'y'), 'l');
@@ -92,10 +108,12 @@ final class SpinsTest {
         Check.due("the middle moment, other way round", cross(3, 2, 1).firmness(0, 'y'), 'l');
         Check.due("the middle moment on x", cross(2, 1, 3).firmness(0, 'x'), 'l');
         Check.due("the middle moment on z", cross(1, 3, 2).firmness(0, 'z'), 'l');
-        Check.due("long, its own axis", cross(3, 1, 1).firmness(0, 'x'), 'f');
-        Check.due("long, across", cross(3, 1, 1).firmness(0, 'y'), '-');
-        Check.due("flat, across", cross(1, 3, 3).firmness(0, 'z'), '-');
-        Check.due("flat, its own axis", cross(1, 3, 3).firmness(0, 'x'), 'f');
+        dueFirmness("long along x", cross(3, 1, 1), "f--");
+        dueFirmness("long along y", cross(1, 3, 1), "-f-");
+        dueFirmness("long along z", cross(1, 1, 3), "--f");
+        dueFirmness("flat across x", cross(1, 3, 3), "f--");
+        dueFirmness("flat across y", cross(3, 1, 3), "-f-");
+        dueFirmness("flat across z", cross(3, 3, 1), "--f");
         Check.due("all alike", cross(2, 2, 2).firmness(0, 'x'), '-');
         Check.due("no masses", empty().firmness(0, 'x'), '-');
         Check.refused(SpinsTest::skew, "firmness(1, 'w')", NO_INDEX, h -> h.firmness(1, 'w'));
@@ -120,6 +138,8 @@ final class SpinsTest {
         Check.due("least on y", spun(cross(1, 3, 2), 0, 1, 0).goesRound(0), 'y');
         Check.refused(SpinsTest::skew, "goesRound(1)", NO_INDEX, h -> h.goesRound(1));
         Check.refused(SpinsTest::skew, "goesRound of a skew body", UNSUPPORTED, h -> h.goesRound(0));
+        Check.refused(SpinsTest::skewAndUnlike, "goesRound of a skew body with unlike moments", UNSUPPORTED,
+            h -> h.goesRound(0));
         Check.refused(SpinsTest::empty, "goesRound of no masses", UNSUPPORTED, h -> h.goesRound(0));
         Check.refused(() -> cross(3, 1, 1), "goesRound of a long body", UNSUPPORTED, h -> h.goesRound(0));
         Check.refused(() -> cross(3, 3, 1), "goesRound of a flat body", UNSUPPORTED, h -> h.goesRound(0));
