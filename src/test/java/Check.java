@@ -13,21 +13,32 @@ final class Check {
         count++;
         if (!got.equals(want)) {
             wrong++;
-            System.out.println(call + " answered " + got + ", due is " + want);
+            System.out.println(Sentence.current() + call + " answered " + got + ", due is " + want);
         }
     }
 
     /** The call throws exactly this exception, and leaves a hall that reads as one without the call. */
     static void refused(Supplier<SpinHall> maker, String call, Class<?> want, Consumer<SpinHall> action) {
-        SpinHall hall = maker.get();
-        Object got = "nothing";
+        due(call + " throws", thrownBy(maker.get(), action), want);
+        String behind = Readings.of(() -> {
+            SpinHall hall = maker.get();
+            thrownBy(hall, action);
+            return hall;
+        });
+        due("all that is read behind " + call, behind, Readings.of(maker));
+    }
+
+    private static Object thrownBy(SpinHall hall, Consumer<SpinHall> action) {
         try {
             action.accept(hall);
+            return "nothing";
         } catch (RuntimeException thrown) {
-            got = thrown.getClass();
+            return thrown.getClass();
         }
-        due(call + " throws", got, want);
-        due("all that is read behind " + call, Readings.of(hall), Readings.of(maker.get()));
+    }
+
+    static int count() {
+        return count;
     }
 
     static void end() {

@@ -8,7 +8,6 @@ final class TurnsTest {
     public static void main(String[] args) {
         turn();
         wrongTurns();
-        turnLimit();
         turnOf();
         placeOf();
         timesBack();
@@ -76,56 +75,6 @@ final class TurnsTest {
             Check.refused(TurnsTest::some, "timesBack z " + number, WRONG, h -> h.timesBack(1, 0, 0, number));
         }
         Check.refused(TurnsTest::some, "timesBack of all 0", WRONG, h -> h.timesBack(0, 0, 0, 0));
-    }
-
-    private static void turnLimit() {
-        SpinHall hall = fourth();
-        dueTurn("the fourth", hall, 20447, -4896, 0, 0);
-        Check.refused(TurnsTest::fourth, "the fifth", ArithmeticException.class, h -> h.turn(0, 9, 8, 0, 0));
-        hall.turn(0, 9, -8, 0, 0);
-        dueTurn("back to the third", hall, 999, -1432, 0, 0);
-        numbersAtTheLimit();
-        numbersBeyondTheLimit();
-    }
-
-    private static SpinHall fourth() {
-        return turned(9, 8, 0, 0, 9, 8, 0, 0, 9, 8, 0, 0, 9, 8, 0, 0);
-    }
-
-    private static void numbersAtTheLimit() {
-        dueTurn("w at the limit", turned(6, 5, -7, -7, 6, -8, -6, -4, 8, -2, -3, 7, -5, 9, 7, -9, -8, -4, -6, -3),
-            30000, -21410, -4496, -5003);
-        dueTurn("x at the limit", turned(2, 3, -4, -1, 6, 9, -4, 6, 2, -3, -5, 3, -5, 2, 9, 6, 5, 7, 6, 4),
-            10582, 30000, 4231, 8125);
-        dueTurn("x at the limit below 0", turned(2, -3, -7, 3, -1, 3, -7, -5, 1, 4, -7, -5, 4, 3, -2, 9, -5, -4, 4, -8),
-            25582, -30000, -10345, 12019);
-        dueTurn("y at the limit", turned(-6, 0, 8, 4, 5, -6, 8, -8, -7, 8, 4, -9, -5, -6, 2, -3, 0, -8, -3, 1),
-            12757, -11005, 30000, -19796);
-        dueTurn("y at the limit below 0", turned(-2, -1, -7, 7, -7, 4, -6, -8, 6, 8, 5, 4, 4, -1, -5, 3, 8, 2, -9, 1),
-            2435, -20599, -30000, -26582);
-        dueTurn("z at the limit", turned(-3, 4, 4, 6, 8, -8, -5, 3, 1, 3, -1, 9, 7, -9, -2, 5, -9, 1, 1, -9),
-            25859, 13504, 10921, 30000);
-        dueTurn("z at the limit below 0", turned(-3, 2, 6, -9, -1, -6, -6, 9, -7, -8, 5, -5, -1, 4, -8, 5, 9, 3, 9, -6),
-            3388, -18955, 26799, -30000);
-    }
-
-    /** Each last turn would make one number 30001 or -30001, and the others less. */
-    private static void numbersBeyondTheLimit() {
-        Class<?> beyond = ArithmeticException.class;
-        Check.refused(() -> turned(6, -4, -6, -2, 5, 6, 7, 6, -1, 8, 2, 4, -3, -6, -4, 1), "w beyond",
-            beyond, h -> h.turn(0, 5, -3, -7, 2));
-        Check.refused(() -> turned(-9, -2, -4, -3, 4, -9, 3, -8, 5, -6, 2, 7, -6, -2, 6, 4), "x beyond",
-            beyond, h -> h.turn(0, -6, 4, -6, 1));
-        Check.refused(() -> turned(-1, -2, -4, 4, 2, 6, -1, -9, 8, 2, 2, 2, 9, 2, -9, 2), "x beyond below 0",
-            beyond, h -> h.turn(0, -5, 9, -6, 1));
-        Check.refused(() -> turned(2, 5, 8, 9, 6, 9, 5, 4, -1, 4, 9, -2, -7, 0, 7, -5), "y beyond",
-            beyond, h -> h.turn(0, 6, 2, 5, -6));
-        Check.refused(() -> turned(1, 2, -1, -9, -1, 6, -9, 2, -4, -2, -2, -1, 7, 5, -7, 5), "y beyond below 0",
-            beyond, h -> h.turn(0, 9, -9, 4, -4));
-        Check.refused(() -> turned(-5, 9, -8, 1, -1, -3, -4, 2, -5, -9, -1, 7, 8, 2, 2, 7), "z beyond",
-            beyond, h -> h.turn(0, 2, -2, -6, -1));
-        Check.refused(() -> turned(3, 4, -4, -1, -1, -8, -9, -3, 4, -2, -3, -9, 6, 0, 7, -3, 4, -5, -3, -5),
-            "z beyond below 0", beyond, h -> h.turn(0, 7, -9, 4, -7));
     }
 
     private static void turnOf() {
