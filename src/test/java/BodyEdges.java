@@ -294,7 +294,7 @@ final class BodyEdges {
         Check.refused(() -> Halls.withBody(1, 0, 1, 1, 1, 0, 0, 0), "x -1", UNSUPPORTED, h -> h.kindOf(0));
         Check.refused(() -> Halls.withBody(1, 0, 1, -1, 1, 0, 0, 0), "x 1", UNSUPPORTED, h -> h.kindOf(0));
         Check.refused(Halls::full, "kindOf in the full hall", UNSUPPORTED, h -> h.kindOf(5));
-        // both sides of the sum for a product are 81, so that it is 0 again
+        // a third and a fourth mass even out what makes the first two skew
         Check.due("kindOf of one that is skew no more",
             Halls.withBody(1, 1, 1, 0, 1, 1, -1, 0, 1, -1, 1, 0, 1, -1, -1, 0).kindOf(0), 'o');
     }

@@ -184,7 +184,10 @@ final class CageEdges {
         Check.due("-999 and -1", keeping(-999).pushCage(-1, 1), 359);
         Check.due("-998 and -1", keeping(-998).pushCage(-1, 1), 0);
         Check.due("999 and -1998", keeping(999).pushCage(-999, 2), 0);
-        Check.due("999 and -1999, toward 0", keeping(999).pushCage(-1, 1), 0);
+        Check.due("999 and -1", keeping(999).pushCage(-1, 1), 0);
+        SpinHall down = keeping(999);
+        down.pushCage(-999, 2);
+        Check.due("999, -1998 and -1", down.pushCage(-1, 1), 359);
         Check.due("1 and -1001", keeping(1).pushCage(-91, 11), 359);
         Check.due("-1 and 1", keeping(-1).pushCage(1, 1), 0);
         SpinHall below = keeping(-999);

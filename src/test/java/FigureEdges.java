@@ -136,7 +136,7 @@ final class FigureEdges {
 
     private static void termOfNoChange() {
         Sentence.term("A method that throws an exception changes nothing.");
-        Check.refused(Halls::busy, "each number of addMass in turn", Edge.WRONG, h -> h.addMass(0, 9, 9, 9, 10));
+        Check.refused(Halls::busy, "the last number of addMass", Edge.WRONG, h -> h.addMass(0, 9, 9, 9, 10));
         Check.refused(Halls::busy, "the last number of setSpin", Edge.WRONG, h -> h.setSpin(0, 9, 9, 21));
         Check.refused(Halls::busy, "the last number of turn", Edge.WRONG, h -> h.turn(0, 9, 8, 7, 10));
         Check.refused(Halls::busy, "the last number of addTop", Edge.WRONG, h -> h.addTop(9, 9, 9, 9, 100000));

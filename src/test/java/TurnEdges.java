@@ -89,7 +89,7 @@ final class TurnEdges {
         Check.refused(Halls::busy, "turn by all 0", Edge.WRONG, h -> h.turn(0, 0, 0, 0, 0));
         Check.refused(Halls::withBody, "turn by all 0 at first", Edge.WRONG, h -> h.turn(0, 0, 0, 0, 0));
         Check.refused(TurnEdges::fourth, "turn by all 0, near the limit", Edge.WRONG, h -> h.turn(0, 0, 0, 0, 0));
-        // with the number inside its range, each of these turns would be beyond the limit
+        // taken as they are, these numbers would lead beyond the limit
         Edge.outside("turn w, beyond the limit too", TurnEdges::fourth, -9, 9, (h, n) -> h.turn(0, n, 8, 0, 0));
         Edge.outside("turn x, beyond the limit too", TurnEdges::fourth, -9, 9, (h, n) -> h.turn(0, 9, n, 0, 0));
         Edge.outside("turn y, beyond the limit too", TurnEdges::fourth, -9, 9, (h, n) -> h.turn(0, 9, 8, n, 0));
