@@ -1,10 +1,15 @@
+import java.io.IOException;
 import java.lang.reflect.Constructor;
 import java.lang.reflect.Field;
 import java.lang.reflect.Method;
 import java.lang.reflect.Modifier;
+import java.nio.file.Files;
+import java.nio.file.Path;
 import java.util.Arrays;
 import java.util.Set;
 import java.util.TreeSet;
+import java.util.regex.Matcher;
+import java.util.regex.Pattern;
 import java.util.stream.Collectors;
 
 /** The class has the document's face, with its throws clauses, and no other member that is not private. */
@@ -35,7 +40,8 @@ final class FaceTest {
         line("int clearPhotographs()"), line("int rates()"), line("int slowestRate()", N), line("long checksum()"),
         line("float wakingShare()", R), line("double meanPlace(int,char)", I, A, R), line("boolean isSound()")));
 
-    public static void main(String[] args) {
+    public static void main(String[] args) throws IOException {
+        Check.due("the face that the document tells", told(Files.readString(Path.of("../shared/DOC.md"))), FACE);
         Set<String> seen = new TreeSet<>();
         Set<String> hidden = new TreeSet<>();
         for (Method method : SpinHall.class.getDeclaredMethods()) {
@@ -66,6 +72,19 @@ final class FaceTest {
             Check.due("another method named " + name, hidden.contains(name), false);
         }
         Check.end();
+    }
+
+    /** The methods of the document's "The public face". */
+    private static Set<String> told(String document) {
+        String face = document.substring(document.indexOf("public final class SpinHall"), document.indexOf("## Terms"));
+        Matcher methods = Pattern.compile("public (\\w+ \\w+)\\(([^)]*)\\)(?: throws ([^;]*))?;").matcher(face);
+        Set<String> told = new TreeSet<>();
+        while (methods.find()) {
+            String kinds = methods.group(2).replaceAll(" \\w+(, |$)", ",").replaceAll(",$", "");
+            String[] exceptions = methods.group(3) == null ? new String[0] : methods.group(3).split(", ");
+            told.add(line(methods.group(1) + "(" + kinds + ")", exceptions));
+        }
+        return told;
     }
 
     private static String line(String call, String... exceptions) {

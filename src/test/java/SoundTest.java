@@ -37,12 +37,32 @@ final class SoundTest {
         Check.due("isSound() with " + what, hall.isSound(), want);
     }
 
-    /** A mass of -1 makes the moments of a rod -1, -1 and 0, of which 0 is more than both others together. */
     private static void moments() throws ReflectiveOperationException {
-        for (String places : new String[] {"xs", "ys", "zs"}) {
-            due("a rod along " + places, true, hall -> setRod(hall, places, 1));
-            due("moments that do not fit, along " + places, false, hall -> setRod(hall, places, -1));
+        String[] axes = {"xs", "ys", "zs"};
+        for (int axis = 0; axis < 3; axis++) {
+            String own = axes[axis];
+            String one = axes[(axis + 1) % 3];
+            String two = axes[(axis + 2) % 3];
+            // a mass of -1 makes the moments of a rod 0, -1 and -1, and 0 is more than both others together
+            due("a rod along " + own, true, hall -> setRod(hall, own, 1));
+            due("moments below 0 that do not fit, along " + own, false, hall -> setRod(hall, own, -1));
+            // the moments are 90, 45 and 45; a mass of -1 takes 7 off each of both others
+            due("a flat body across " + own, true, hall -> setDisc(hall, own, one, two, 0));
+            due("moments that do not fit, across " + own, false, hall -> setDisc(hall, own, one, two, -1));
         }
+    }
+
+    /** A mass on each of two axes, one on the third axis that may be below 0, and the rest of 6 at the centre. */
+    private static void setDisc(SpinHall hall, String own, String one, String two, int mass)
+            throws ReflectiveOperationException {
+        Object body = Array.get(get(hall, "bodies"), 1);
+        int[] masses = {1, 1, mass, 4 - mass};
+        for (int i = 0; i < masses.length; i++) {
+            Array.setInt(get(body, "masses"), i, masses[i]);
+        }
+        Array.setInt(get(body, one), 0, 3);
+        Array.setInt(get(body, two), 1, 3);
+        Array.setInt(get(body, own), 2, 1);
     }
 
     private static void setRod(SpinHall hall, String places, int mass) throws ReflectiveOperationException {

@@ -230,6 +230,12 @@ final class SpinEdges {
         dueRound("a bit less", 19, 20, 20, 'z');
         dueRound("a bit more, below 0", -8, 1, -7, 'x');
         dueRound("a bit less, below 0", -7, 1, -8, 'z');
+        // with the moments 41, 36, 29 it is 2522, where 70 times 36 are 2520; with 3, 11, 8 it is 565, where 71 times 8
+        // are 568
+        SpinHall more = Halls.withBody(1, 1, 0, -1, 1, -1, 0, -1, 1, 0, -1, 1, 1, 0, 1, 1, 1, 0, 1, 0, 1, 0, 0, 0);
+        Check.due("goesRound, more by 2 alone", spun(more, 1, 0, 1).goesRound(0), 'x');
+        SpinHall less = Halls.withBody(1, 1, 0, 0, 1, -1, 0, 0, 1, 0, 0, -1, 1, 0, 0, 0);
+        Check.due("goesRound, less by 3 alone", spun(less, 3, 2, 0).goesRound(0), 'x');
     }
 
     private static void dueFirmness(String what, int[] masses, String want) {

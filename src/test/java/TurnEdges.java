@@ -69,6 +69,9 @@ final class TurnEdges {
         Check.due("turn by x", Halls.turned().turn(0, 9, 1, 0, 0), false);
         Check.due("turn by y", Halls.turned().turn(0, 9, 0, 1, 0), false);
         Check.due("turn by z", Halls.turned().turn(0, 9, 0, 0, -1), false);
+        Check.due("turn by x, w being 1", Halls.turned().turn(0, 1, 9, 0, 0), false);
+        Check.due("turn by y, w being 1", Halls.turned().turn(0, 1, 0, -9, 0), false);
+        Check.due("turn by z, w being 1", Halls.turned().turn(0, 1, 0, 0, 9), false);
         Check.due("turn by half", Halls.turned().turn(0, 0, 9, 0, 0), false);
         Check.due("turn back", Halls.turned(9, -8, 7, -6).turn(0, 9, 8, -7, 6), true);
         Check.due("turn back, below 0", Halls.turned(9, -8, 7, -6).turn(0, -9, -8, 7, -6), true);
@@ -249,6 +252,9 @@ final class TurnEdges {
         Check.due("with 3", new SpinHall().timesBack(9, -9, 9, -9), 3);
         Check.due("with 3, two thirds", new SpinHall().timesBack(-1, 1, 1, 1), 3);
         Check.due("with 4", new SpinHall().timesBack(5, 3, 0, -4), 4);
+        Check.due("with 4, about x", new SpinHall().timesBack(1, 1, 0, 0), 4);
+        Check.due("with 4, about y", new SpinHall().timesBack(1, 0, -1, 0), 4);
+        Check.due("with 4, about z", new SpinHall().timesBack(1, 0, 0, 1), 4);
         Check.due("with 6", new SpinHall().timesBack(9, 3, -3, 3), 6);
         Check.due("with 6, five sixths", new SpinHall().timesBack(-3, 1, 1, 1), 6);
 
